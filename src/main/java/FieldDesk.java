@@ -146,9 +146,9 @@ public final class FieldDesk {
         int fault = hearKind();
         int place = KIND_SIGNS;
         for (int k = 0; k < MOST_FIELDS && fault == NO_FAULT && heard.dueSort() != 0; k++) {
-            int signs = entry(SIGNS, heard.dueSort());
-            fault = hearField(place);
-            place += signs;
+            int end = place + entry(SIGNS, heard.dueSort());
+            fault = hearField(place, end);
+            place = end;
         }
         return fault == NO_FAULT ? hearCheckDigits(place) : fault;
     }
@@ -181,9 +181,8 @@ public final class FieldDesk {
         return true;
     }
 
-    private int hearField(int start) {
+    private int hearField(int start, int end) {
         int sort = heard.dueSort();
-        int end = start + entry(SIGNS, sort);
         int base = isToBase36(sort) ? 36 : 10;
         long number = 0;
         for (int place = start; place < end; place++) {
