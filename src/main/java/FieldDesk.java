@@ -202,7 +202,7 @@ public final class FieldDesk {
                 return place;
             }
         }
-        // A byte behind the message comes before the check: the digits count only if all else is right.
+        // The check digits count only if nothing else is wrong, so a byte behind them comes first.
         if (text.length > start + 2) {
             return start + 2;
         }
