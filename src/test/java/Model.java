@@ -169,12 +169,17 @@ final class Model {
         if (kind == 0 || ended || nextSort() != 0) {
             return -1;
         }
+        written = withCheckDigits(written);
+        ended = true;
+        return written.length();
+    }
+
+    /** A message without its check digits, and then they. */
+    static String withCheckDigits(String body) {
         for (int digits = 2; digits <= 98; digits++) {
-            String whole = written + digits / 10 + digits % 10;
+            String whole = body + digits / 10 + digits % 10;
             if (remainder(whole).equals(BigInteger.ONE)) {
-                written = whole;
-                ended = true;
-                return written.length();
+                return whole;
             }
         }
         throw new IllegalStateException("no check digits fit");

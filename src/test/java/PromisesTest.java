@@ -1,29 +1,12 @@
 /** Each promise of the document by itself: ordinary inputs, the edges it names, and wrong inputs. */
 public final class PromisesTest {
     private static final Due due = new Due();
-    private static final String RES = "RES00010000000241";
-    private static final String AST_C = "AST100000000011001C0000000000000000007";
-    private static final String AST_S = "AST000100000002003S1234567890123451775";
-    private static final String PAY = "PAY000100000002910005000600700000000000000828";
-    private static final String PAY_4_LEGS = "PAY000100000002340001000200300000000000000400050006007000000000000008"
-        + "0009000A00B000000000000012000D000E00F00000000000001668";
-
-    /** A message of each kind, by its number. */
-    private static final String[] MESSAGES = {
-        "", "NEW000100000002000396", AST_S, "PRC0001000000020030000000000000040561",
-        "ISS000100000002003000400000000000000573", "RED000100000002003000400000000000000589", PAY_4_LEGS,
-        "CNF00010000000200030000000464", "CAN0001000000020000000348", "PRI00010000000200000003946",
-        "LIM000100000002000300000000000000456", "UNL000100000002000349",
-        "PLG00010000000200300000000000000407", "UNP00010000000200300000000000000433", RES, "STM00010000000219"
-    };
-    /** What stands in each of them. */
-    private static final String[] FIELDS = {
-        "", "1:1 3:2 1:3", "1:1 3:2 2:3 5:1 4:123456789012345 6:17", "1:1 3:2 2:3 4:4 6:5",
-        "1:1 3:2 2:3 1:4 4:5", "1:1 3:2 2:3 1:4 4:5",
-        "1:1 3:2 7:3 8:4 1:1 1:2 2:3 4:4 1:5 1:6 2:7 4:8 1:9 1:10 2:11 4:12 1:13 1:14 2:15 4:16",
-        "1:1 3:2 1:3 3:4", "1:1 3:2 3:3", "1:1 3:2 3:3 7:9", "1:1 3:2 1:3 4:4", "1:1 3:2 1:3",
-        "1:1 3:2 2:3 4:4", "1:1 3:2 2:3 4:4", "1:1 3:2", "1:1 3:2"
-    };
+    private static final String RES = Samples.RES;
+    private static final String AST_C = Samples.AST_C;
+    private static final String AST_S = Samples.AST_S;
+    private static final String PAY = Samples.PAY;
+    private static final String[] MESSAGES = Samples.MESSAGES;
+    private static final String[] FIELDS = Samples.FIELDS;
 
     public static void main(String[] args) {
         newObject();
@@ -249,13 +232,10 @@ public final class PromisesTest {
     }
 
     private static void begin() {
-        String[] names = {
-            "", "NEW", "AST", "PRC", "ISS", "RED", "PAY", "CNF", "CAN", "PRI", "LIM", "UNL", "PLG", "UNP", "RES", "STM"
-        };
         FieldDesk x = new FieldDesk();
         for (int kind = 1; kind <= 15; kind++) {
             due.is("7 begin(" + kind + ")", x.begin(kind), true);
-            due.is("7 begin(" + kind + ")", Desk.written(x), names[kind]);
+            due.is("7 begin(" + kind + ")", Desk.written(x), Samples.NAMES[kind]);
         }
         x.add(1);
         for (int kind : new int[] {0, 16, -1, Integer.MIN_VALUE, Integer.MAX_VALUE}) {
