@@ -19,6 +19,13 @@ public final class RefusedCallsTest {
         RefusedCallsTest::room, RefusedCallsTest::textAndHeard, RefusedCallsTest::writing, RefusedCallsTest::copied);
 
     public static void main(String[] args) {
+        nameCalls();
+        due.sentence("A call that is refused changes nothing");
+        inEachState();
+        due.finish();
+    }
+
+    private static void nameCalls() {
         for (int n : new int[] {0, -1, 9, Integer.MIN_VALUE, Integer.MAX_VALUE}) {
             CALLS.put("type(v," + n + ")", x -> !x.type(0x3141414141414141L, n));
         }
@@ -32,8 +39,9 @@ public final class RefusedCallsTest {
         }
         CALLS.put("end()", x -> x.end() == -1);
         CALLS.put("copy()", x -> !x.copy());
+    }
 
-        due.sentence("A call that is refused changes nothing");
+    private static void inEachState() {
         String always = "type(v,0) type(v,-1) type(v,9) type(v,-2147483648) type(v,2147483647) "
             + "begin(0) begin(-1) begin(16) begin(-2147483648) begin(2147483647) "
             + "add(-1) add(2821109907456) add(-9223372036854775808) add(9223372036854775807) ";
@@ -52,7 +60,6 @@ public final class RefusedCallsTest {
         refused("a full text", x -> haveAllAndText(x, 400), always + "type(v,1) type(v,8) add(0) add(1) end() copy()");
         refused("room for 7", x -> haveAllAndText(x, 393), always + "type(v,8) add(0) add(1) end() copy()");
         refused("room for 16", x -> haveAllAndText(x, 384), always + "add(0) add(1) end() copy()");
-        due.finish();
     }
 
     /** In that state those calls, told by their names, are refused and change nothing. */
