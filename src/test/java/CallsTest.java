@@ -18,7 +18,12 @@ public final class CallsTest {
     }
 
     private static void eachCall512Times() {
-        due.sentence("An object is used for at most 512 calls (of one name)");
+        eachReadingCall512Times();
+        eachWritingCall512Times();
+    }
+
+    private static void eachReadingCall512Times() {
+        due.sentence("An object is used for at most 512 calls (of one name, reading)");
         FieldDesk x = new FieldDesk();
         for (int i = 0; i < CALLS; i++) {
             due.is("type " + i, x.type('0', 1), i < 400);
@@ -27,7 +32,31 @@ public final class CallsTest {
         for (int i = 0; i < CALLS; i++) {
             due.is("read " + i, x.read(), -1);
         }
-        x = new FieldDesk();
+        // Three calls type RES and one reads it.
+        x = readRes();
+        for (int i = 4; i < CALLS; i++) {
+            due.is("fields " + i, x.fields(), 2);
+        }
+        x = readRes();
+        for (int i = 4; i < CALLS; i++) {
+            due.is("sort " + i, x.sort(i - 4), i == 4 ? 1 : i == 5 ? 3 : 0);
+        }
+        x = readRes();
+        for (int i = 4; i < CALLS; i++) {
+            due.is("number " + i, x.number(i - 4), i == 4 ? 1 : i == 5 ? 2 : -1);
+        }
+    }
+
+    private static FieldDesk readRes() {
+        FieldDesk x = new FieldDesk();
+        Desk.type(x, Samples.RES);
+        x.read();
+        return x;
+    }
+
+    private static void eachWritingCall512Times() {
+        due.sentence("An object is used for at most 512 calls (of one name, writing)");
+        FieldDesk x = new FieldDesk();
         for (int i = 0; i < CALLS; i++) {
             due.is("begin " + i, x.begin(1 + i % 15), true);
         }

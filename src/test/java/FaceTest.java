@@ -6,7 +6,7 @@ import java.lang.reflect.Modifier;
 import java.util.Set;
 import java.util.TreeSet;
 
-/** The public face is the document's, and no other member can be seen from outside. */
+/** The public face is the document's, and no other member can be seen from outside (LANGUAGE.md, rule 1). */
 public final class FaceTest {
     private static final Set<String> FACE = Set.of(
         "public FieldDesk()",
@@ -37,12 +37,38 @@ public final class FaceTest {
         due.is("the face", seen.toString(), new TreeSet<>(FACE).toString());
         due.is("final", Modifier.isFinal(FieldDesk.class.getModifiers()), true);
         due.is("public", Modifier.isPublic(FieldDesk.class.getModifiers()), true);
+        due.is("a class above it", FieldDesk.class.getSuperclass().getName(), "java.lang.Object");
+        due.is("interfaces of it", FieldDesk.class.getInterfaces().length, 0);
+        due.is("package", FieldDesk.class.getPackageName(), "");
+        askClassesInside(due);
+        askPrivateNames(due);
         due.finish();
     }
 
     private static void note(Member member, String words) {
         if (!Modifier.isPrivate(member.getModifiers()) && !member.isSynthetic()) {
             seen.add(words);
+        }
+    }
+
+    private static void askClassesInside(Due due) {
+        for (Class<?> inside : FieldDesk.class.getDeclaredClasses()) {
+            int modifiers = inside.getModifiers();
+            due.is(inside + " is static", Modifier.isStatic(modifiers), true);
+            due.is(inside + " is seen", Modifier.isPublic(modifiers) || Modifier.isProtected(modifiers), false);
+        }
+    }
+
+    private static void askPrivateNames(Due due) {
+        Set<String> publicNames = new TreeSet<>();
+        for (Method m : FieldDesk.class.getDeclaredMethods()) {
+            if (Modifier.isPublic(m.getModifiers())) {
+                publicNames.add(m.getName());
+            }
+        }
+        for (Method m : FieldDesk.class.getDeclaredMethods()) {
+            boolean isPrivate = Modifier.isPrivate(m.getModifiers());
+            due.is(m + " bears a public name", isPrivate && publicNames.contains(m.getName()), false);
         }
     }
 }
